@@ -158,7 +158,8 @@ public final class WhichLane {
   }
 
   public int cost() {
-    return day.costIn(house);
+    day.run(house);
+    return day.allCost();
   }
 
   public int waited(int sort) {
@@ -792,6 +793,7 @@ public final class WhichLane {
     int servedSort;
     int first;
     int word;
+    int sortsInWord;
     int shutUntil;
     private int end;
 
@@ -811,6 +813,7 @@ public final class WhichLane {
       servedSort = -1;
       first = -1;
       word = 0;
+      sortsInWord = 0;
       shutUntil = 0;
       end = -1;
     }
@@ -845,7 +848,7 @@ public final class WhichLane {
     }
 
     int loadAt(int second) {
-      return load + (isServing ? Math.max(done - second, 0) : 0);
+      return isServing && done > second ? load + done - second : load;
     }
   }
 
@@ -897,8 +900,7 @@ public final class WhichLane {
       }
     }
 
-    int costIn(House told) {
-      run(told);
+    int allCost() {
       int all = 0;
       for (int sort = 0; sort < house.sorts; sort++) {
         all += waitedBy[sort] * house.worth[sort] + LOST_COST * lostBy[sort];
@@ -952,8 +954,10 @@ public final class WhichLane {
       }
       quarter = itsQuarter;
       for (int lane = 0; lane < house.lanes; lane++) {
-        lines[lane].word = house.wordOf(lane, quarter);
-        boolean isChanged = quarter > 0 && house.wordOf(lane, quarter - 1) != lines[lane].word;
+        int itsWord = house.wordOf(lane, quarter);
+        boolean isChanged = quarter > 0 && house.wordOf(lane, quarter - 1) != itsWord;
+        lines[lane].word = itsWord;
+        lines[lane].sortsInWord = Integer.bitCount(itsWord);
         lines[lane].shutUntil = isChanged ? quarter * QUARTER_SECONDS + house.settings[SHUT] : 0;
       }
     }
@@ -1031,9 +1035,8 @@ public final class WhichLane {
     }
 
     private static boolean isMoreApart(Line line, Line than) {
-      int sorts = Integer.bitCount(line.word);
-      int thanSorts = Integer.bitCount(than.word);
-      return sorts < thanSorts || sorts == thanSorts && line.standing < than.standing;
+      boolean isAsNarrow = line.sortsInWord == than.sortsInWord;
+      return line.sortsInWord < than.sortsInWord || isAsNarrow && line.standing < than.standing;
     }
 
     private void leaveLine(Line line, int second) {
@@ -1088,13 +1091,15 @@ public final class WhichLane {
     }
 
     int wordOfLeastCost(Day day, House now) {
-      int least = day.costIn(now);
+      day.run(now);
+      int least = day.allCost();
       int answer = NONE;
       for (int lane = 0; lane < now.lanes; lane++) {
         for (int itsWord = 0; itsWord <= MOST_WORD; itsWord++) {
           trial.copy(now);
           trial.tellWordAlone(lane, itsWord);
-          int then = day.costIn(trial);
+          day.run(trial);
+          int then = day.allCost();
           if (then < least) {
             least = then;
             answer = HUNDRED * lane + itsWord;
@@ -1108,7 +1113,8 @@ public final class WhichLane {
       trial.copy(now);
       for (int lanes = 1; lanes <= now.lanes; lanes++) {
         trial.lanes = lanes;
-        if (day.costIn(trial) <= most) {
+        day.run(trial);
+        if (day.allCost() <= most) {
           return lanes;
         }
       }
@@ -1119,9 +1125,11 @@ public final class WhichLane {
       for (int seconds = 0; seconds <= MOST_SETTING[SWITCH]; seconds++) {
         trial.copy(now);
         trial.settings[SWITCH] = seconds;
-        int mixed = day.costIn(trial);
+        day.run(trial);
+        int mixed = day.allCost();
         trial.narrowWords();
-        if (mixed > day.costIn(trial)) {
+        day.run(trial);
+        if (mixed > day.allCost()) {
           return seconds;
         }
       }
@@ -1134,7 +1142,8 @@ public final class WhichLane {
       int least = 0;
       for (int v = LEAST_SETTING[what]; v <= MOST_SETTING[what]; v++) {
         trial.settings[what] = v;
-        int then = day.costIn(trial);
+        day.run(trial);
+        int then = day.allCost();
         if (answer == NONE || then < least) {
           least = then;
           answer = v;
@@ -1151,13 +1160,19 @@ public final class WhichLane {
         trial.tellComers(from, quarter, all - buyers);
         trial.tellComers(to, quarter, now.comersOf(to, quarter) + buyers);
       }
-      return day.costIn(now) - day.costIn(trial);
+      day.run(now);
+      int costNow = day.allCost();
+      day.run(trial);
+      return costNow - day.allCost();
     }
 
     int lostByFailing(Day day, House now, int sort, int quarter, int seconds) {
       trial.copy(now);
       trial.tellNeed(sort, quarter, seconds);
-      return day.costIn(trial) - day.costIn(now);
+      day.run(now);
+      int costNow = day.allCost();
+      day.run(trial);
+      return day.allCost() - costNow;
     }
   }
 

@@ -232,6 +232,7 @@ final class PromiseTests {
     due("6 above", x.word(0, 32), -6);
     due("6 unchanged", x.lane(0, 0), 0);
     due("6 counted", x.count(11) * 100 + x.count(14) * 10 + x.count(16), 211);
+    due("6 not that of quarter 1", houseOf("l5;q10,4;").word(0, 31), 5);
   }
 
   private void settingsSet() {
@@ -386,6 +387,19 @@ final class PromiseTests {
     due("12 lost", lost.lost(1), 1);
     lost.set(2, 100);
     due("13 one lost has not strayed", lost.strayed(), 1);
+    WhichLane never = houseOf("s1,1;l1;l0;a00,25;a10,25;a20,25;a30,25;");
+    due("13 never without strays", never.strayed(), 0);
+    never.set(2, 72);
+    never.set(7, 9);
+    due("13 never with as many signs", never.strayed(), 0);
+    never.set(2, 73);
+    due("13 one of a hundred", never.strayed(), 1);
+    WhichLane later = houseOf("s60,1;l1;l0;a30,25;");
+    later.set(2, 100);
+    int without = later.last();
+    tell(later, "q31,1;");
+    due("16 words of quarter 3 go on", later.last(), 2700 + 60 * 25);
+    due("16 extra behind quarter 3", without, 2700 + 90 * 25);
     WhichLane word = houseOf("s60,1;s50,1;l1;l2;a00,23;a01,1;", "q11,1;");
     word.set(2, 100);
     word.set(3, 99);
@@ -453,23 +467,48 @@ final class PromiseTests {
     due("10 24 more each", x.waited(0), 24 * 99 * 50);
     x.set(1, 20);
     due("11 a gap that is less", x.served(0), 100);
-    WhichLane late = houseOf("s60,1;s60,1;s60,1;s60,1;s60,1;l31;", "a30,25;a31,25;a32,25;a33,25;a34,25;");
-    late.set(5, 60);
-    due("11 none behind second 7199", late.count(3), 74);
-    due("16 the latest", late.last(), 2700 + 60 * 74);
-    due("9 as PlainLane has it", late.cost(), plainLate());
+    cutInTheQueue();
+    cutBeforeTheRoad();
+    WhichLane third = houseOf("s60,1;s60,1;s60,1;s60,1;s60,1;l31;", "a30,25;a31,25;a32,25;a33,25;a34,25;");
+    third.set(5, 60);
+    due("11 none behind second 7199", third.count(3), 74);
+    due("16 the latest", third.last(), 2700 + 60 * 74);
   }
 
-  private static int plainLate() {
-    PlainLane p = new PlainLane();
-    for (String text : new String[] {"s60,1;s60,1;s60,1;s60,1;s60,1;l31;", "a30,25;a31,25;a32,25;a33,25;a34,25;"}) {
-      for (int i = 0; i < text.length(); i++) {
-        p.feed(1, text.charAt(i));
-      }
-      p.house();
+  /** By turns of two sorts with SWITCH 60: car j is served at 2760 and 120 more for each behind it. */
+  private void cutInTheQueue() {
+    WhichLane x = houseOf("s60,3;s60,5;l3;a30,25;a31,25;");
+    x.set(5, 60);
+    x.set(0, 60);
+    int[] waited = new int[2];
+    int left = 0;
+    for (int j = 0; j < 50; j++) {
+      int start = j == 0 ? 2700 : 2760 + 120 * (j - 1);
+      waited[j % 2] += Math.min(start, 7200) - (2700 + 36 * (j / 2));
+      left += start + (j == 0 ? 60 : 120) < 7200 ? 1 : 0;
     }
-    p.set(5, 60);
-    return p.cost();
+    due("10 till the end, sort 0", x.waited(0), waited[0]);
+    due("10 till the end, sort 1", x.waited(1), waited[1]);
+    due("9 till the end", x.cost(), 3 * waited[0] + 5 * waited[1]);
+    due("11 before the end", x.count(3), left);
+    due("16 before the end", x.last(), 7080);
+  }
+
+  /** One leaves each 20 seconds from 1 on, always by a lane ahead of lane 5: of 401 that come 360 leave. */
+  private void cutBeforeTheRoad() {
+    WhichLane x = houseOf("s1,1;s1,1;s1,1;s1,1;s1,9;l15;l15;l15;l15;l15;l16;a04,1;",
+        "a00,25;a10,25;a20,25;a30,25;a01,25;a11,25;a21,25;a31,25;",
+        "a02,25;a12,25;a22,25;a32,25;a03,25;a13,25;a23,25;a33,25;");
+    x.set(1, 20);
+    x.set(5, 60);
+    due("10 done at 1, not left at 7200", x.waited(4), 7199);
+    due("11 not left", x.served(4), 0);
+    due("12 not lost", x.lost(4), 0);
+    due("14 it stands there", x.longest(5), 1);
+    due("15 none", x.passed(5), 0);
+    due("16 the last that the road takes", x.last(), 7181);
+    due("32 all that left", x.count(3), 360);
+    due("17 mean", x.mean(4, 0), 7199);
   }
 
   private void rules() {
@@ -498,6 +537,22 @@ final class PromiseTests {
     load.word(0, 7);
     load.word(2, 0);
     due("9 of several the least", load.passed(0), 1);
+    WhichLane all = houseOf("s40,1;s10,1;s30,1;s5,1;s60,1;l31;l31;", "a00,1;a01,1;a02,1;a03,1;a04,1;");
+    all.set(4, 2);
+    due("15 all that stand there, lane 0", all.passed(0), 2);
+    due("15 all that stand there, lane 1", all.passed(1), 3);
+    due("10 behind 10", all.waited(2), 10);
+    due("10 behind 40 in lane 0", all.waited(3), 40);
+    due("10 behind 40 in lane 1", all.waited(4), 40);
+    WhichLane gone = houseOf("s60,1;s50,1;s1,1;l1;l7;a00,1;a01,1;a02,25;");
+    gone.word(0, 5);
+    gone.word(1, 6);
+    gone.set(4, 2);
+    due("15 those served are no load", gone.passed(0), 24);
+    due("10 50 and 15", gone.waited(2), 65);
+    WhichLane tie = houseOf("s9,1;l3;l5;l9;a00,1;");
+    tie.set(4, 1);
+    due("15 apart, of several the least", tie.passed(0), 1);
     WhichLane left = houseOf("s60,1;s20,1;l3;l3;a00,20;a01,1;");
     left.set(4, 2);
     due("15 what is left of one being served", left.passed(1), 11);
@@ -510,6 +565,9 @@ final class PromiseTests {
     x.come(0, 1, 5);
     due("17 least terms, above", x.mean(1, 0), 2);
     due("17 least terms, below", x.mean(1, 1), 1);
+    x.come(0, 1, 1);
+    due("17 one, above", x.mean(1, 0), 10);
+    due("17 one, below", x.mean(1, 1), 1);
     due("17 nobody waits, above", x.mean(0, 0), 0);
     due("17 nobody waits, below", x.mean(0, 1), 1);
     x.come(0, 1, 0);
@@ -543,6 +601,8 @@ final class PromiseTests {
     due("18 changes stay", change.count(4) * 100 + change.lane(0, 1), 100);
     change.set(6, 99);
     due("18 never shut", change.bestWord(), 1);
+    due("18 none may pay", houseOf("s60,99;l1;a00,25;a10,25;").bestWord(), 0);
+    due("18 all may pay", houseOf("s1,1;s1,1;s1,1;s1,1;s1,1;l0;", "a00,1;a01,1;a02,1;a03,1;a04,1;").bestWord(), 31);
   }
 
   private void fewestLanes() {
@@ -561,6 +621,7 @@ final class PromiseTests {
     due("19 counted", x.count(14) * 10 + x.count(13), 10);
     x.word(1, 3);
     due("19 from the last on", x.fewest(999), 2);
+    due("19 of one", houseOf("l0;").fewest(0), 1);
     WhichLane stray = houseOf("s40,1;l1;l0;a00,25;");
     stray.set(2, 100);
     due("19 one alone: nobody strays", stray.fewest(4 * 300), 1);
@@ -573,6 +634,12 @@ final class PromiseTests {
     x.set(4, 3);
     due("20 from 0 on", x.edge(), 0);
     due("20 in mind", x.lane(0, 0), 3);
+    WhichLane last = houseOf("s10,1;s10,1;l3;l2;a00,1;a11,13;");
+    last.set(4, 3);
+    due("20 the second 969 comes one too early", last.edge(), 60);
+    WhichLane none = houseOf("s10,1;s9,1;l3;l2;a00,1;a11,13;");
+    none.set(4, 3);
+    due("20 just in time", none.edge(), -9);
     WhichLane late = houseOf("s10,1;s10,1;l1;l3;a00,25;a01,25;");
     late.set(0, 33);
     int edge = late.edge();
@@ -594,6 +661,9 @@ final class PromiseTests {
     due("21 no two behind each other", x.signs(), 7);
     due("21 in mind", x.set(7, 9), 0);
     due("21 not by the setting", x.signs(), 7);
+    WhichLane most = houseOf("s20,1;s20,1;l1;l2;a00,6;a01,6;");
+    most.set(2, 80);
+    due("21 twelve by 8 each", most.signs(), 9);
   }
 
   private void bestRules() {
@@ -606,6 +676,7 @@ final class PromiseTests {
     x.come(0, 0, 0);
     x.come(0, 1, 0);
     due("22 of several the least", x.bestRule(), 0);
+    due("22 last", houseOf("s9,1;s9,1;l3;l13;a00,1;a01,1;").bestRule(), 4);
   }
 
   private void bought() {
@@ -664,7 +735,7 @@ final class PromiseTests {
     due("25 no lanes", x.weave(), 0);
     due("26 no lanes", x.order(-1), 0);
     due("26 none such", x.order(0), -9);
-    x = houseOf("s1,1;s1,1;l1;l2;l1;q10,31;");
+    x = houseOf("s1,1;s1,1;l1;l2;l1;q10,31;q11,16;q12,8;");
     due("25 pairs", x.weave(), 4);
     due("26 weave", x.order(-1), 2);
     due("26 first", x.order(0), 0);
@@ -683,6 +754,9 @@ final class PromiseTests {
     }
     due("26 six lanes' words", wordWeave(six, got), 7);
     due("26 from lane 0", got[0], 0);
+    WhichLane middle = houseOf("l3;l1;l7;");
+    due("26 another first", middle.order(0) * 100 + middle.order(1) * 10 + middle.order(2), 102);
+    due("26 another first, weave", middle.order(-1), 2);
     due("25 one lane", houseOf("l31;").weave(), 0);
   }
 
@@ -709,6 +783,11 @@ final class PromiseTests {
     due("27 first", light.rests(0), 1);
     due("27 second", light.rests(1), 1);
     due("27 third", light.rests(2), 0);
+    WhichLane long5 = houseOf("s3,1;s10,1;s9,1;s6,1;s11,1;l6;l27;l19;l15;", "a00,1;a01,1;a02,1;a03,1;a04,1;q10,0;q11,0;q12,0;q13,0;");
+    int[] rests = {3, 2, 0, 3, 1};
+    for (int sort = 0; sort < 5; sort++) {
+      due("27 round by round", long5.rests(sort), rests[sort]);
+    }
     WhichLane quarter = houseOf("s1,1;s1,1;l3;l3;a10,10;a11,10;");
     due("27 of quarter 0 alone", quarter.rests(0), 0);
   }
@@ -735,6 +814,10 @@ final class PromiseTests {
       due("29 row " + i, x.judge(), want[i]);
       due("29 emptied", x.count(5), 0);
     }
+    WhichLane one = houseOf("s10,1;s5,1;l3;a00,1;a01,1;");
+    one.row(0);
+    one.row(10);
+    due("29 mean of one", one.judge(), -9);
   }
 
   private void imaged() {
