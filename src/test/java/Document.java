@@ -7,11 +7,12 @@ import java.util.List;
 /** The document's words, and which of them some test is about; part 0 is "Terms", part n is Promise n. */
 final class Document {
   private static final int PROMISES = 32;
+  private final String all;
   private final List<String> parts = new ArrayList<>();
   private final List<boolean[]> told = new ArrayList<>();
 
   Document(String path) throws Exception {
-    String all = Files.readString(Path.of(path), StandardCharsets.UTF_8);
+    all = Files.readString(Path.of(path), StandardCharsets.UTF_8);
     add(between(all, "## Terms\n", "## Promise 1:"));
     for (int n = 1; n <= PROMISES; n++) {
       String promise = between(all, "## Promise " + n + ":", "\n## ");
@@ -28,6 +29,20 @@ final class Document {
     String plain = text.replaceAll("```(text)?", " ").replaceAll("==== I+\\.", " ").replaceAll("\\s+", " ");
     parts.add(plain);
     told.add(new boolean[plain.length()]);
+  }
+
+  /** Whether the words stand anywhere in it. */
+  boolean says(String words) {
+    return all.contains(words);
+  }
+
+  /** The lines of the public face, without what is around them. */
+  List<String> face() {
+    List<String> lines = new ArrayList<>();
+    for (String line : between(all, "public final class WhichLane {\n", "}\n").split("\n")) {
+      lines.add(line.trim());
+    }
+    return lines;
   }
 
   /** A test is about these words; false if the document has no such words there. */

@@ -2,6 +2,10 @@ import java.lang.reflect.Constructor;
 import java.lang.reflect.Field;
 import java.lang.reflect.Method;
 import java.lang.reflect.Modifier;
+import java.nio.charset.StandardCharsets;
+import java.nio.file.Files;
+import java.nio.file.Path;
+import java.util.List;
 import java.util.Set;
 import java.util.TreeSet;
 
@@ -19,7 +23,8 @@ final class FaceTests {
   private FaceTests() {
   }
 
-  static void test(Tally t) {
+  static void test(Tally t, Document document, String source) throws Exception {
+    faceOfTheDocument(t, document.face(), Files.readString(Path.of(source), StandardCharsets.UTF_8));
     Set<String> due = new TreeSet<>(Set.of(FACE));
     Set<String> names = new TreeSet<>();
     Set<String> got = new TreeSet<>();
@@ -43,6 +48,22 @@ final class FaceTests {
       t.holds("face: static inside " + c, Modifier.isStatic(c.getModifiers()) && !Modifier.isPublic(c.getModifiers()));
       looked(t, c, names);
     }
+  }
+
+  /** Names of parameters, too: the source has each line of the document's face, in its order, and nothing else public. */
+  private static void faceOfTheDocument(Tally t, List<String> face, String source) {
+    int from = 0;
+    int publics = 1;
+    for (String line : face) {
+      String head = "\n  " + line.substring(0, line.length() - 1) + " {\n";
+      int at = source.indexOf(head, from);
+      t.holds("face: " + line, line.endsWith(";") && at >= 0);
+      from = Math.max(from, at);
+      publics++;
+    }
+    t.due("face: public in the source", source.split("\\bpublic\\b", -1).length - 1, publics);
+    t.holds("face: the document has all " + FACE.length + " and the constructor", face.size() == FACE.length + 1);
+    t.holds("face: class", source.contains("\npublic final class WhichLane {\n"));
   }
 
   private static void looked(Tally t, Class<?> c, Set<String> names) {
